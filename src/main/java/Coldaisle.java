@@ -227,8 +227,9 @@ public final class Coldaisle {
         if (failing != NONE) {
             trial.stopFan(failing);
         }
-        int greatest = Integer.MIN_VALUE;
-        for (int minute = 0; minute < minutes; minute++) {
+        trial.runMinute(settings);
+        int greatest = trial.temperature[zone];
+        for (int minute = 1; minute < minutes; minute++) {
             trial.runMinute(settings);
             greatest = Math.max(greatest, trial.temperature[zone]);
         }
@@ -287,8 +288,9 @@ public final class Coldaisle {
             for (int zone = 0; zone < ZONES; zone++) {
                 setpoint[zone] = 2200;
                 effect[zone][zone] = 60;
-                effect[6][zone] = 20;
-                effect[7][zone] = 20;
+                for (int fan = ZONES; fan < FANS; fan++) {
+                    effect[fan][zone] = 20;
+                }
             }
             proportional = 20;
             integral = 10;

@@ -50,4 +50,14 @@ final class States {
             x.pass(minutes);
         }
     }
+
+    /** Lets minutes pass and answers the greatest temperature of a zone behind any of them. */
+    static int peak(Coldaisle x, int zone, int minutes) {
+        int greatest = Integer.MIN_VALUE;
+        for (int minute = 0; minute < minutes; minute++) {
+            x.pass(1);
+            greatest = Math.max(greatest, x.temperature(zone));
+        }
+        return greatest;
+    }
 }

@@ -8,6 +8,7 @@ public final class TimeTest {
         passEndsWithTheClock();
         minutesInOneCallOrMany();
         coolingIsDividedAsASum();
+        driftIsRoundedDown();
         temperatureFallsBelowZero();
         errorsAreHeld();
         demandIsHeld();
@@ -96,6 +97,31 @@ public final class TimeTest {
         check.due("P14 not cooled", x.temperature(1), 2000);
         x.pass(1);
         check.due("P14 1 / 64 is 0, then cooled by 1", x.temperature(0), 1998);
+        Coldaisle y = States.still();
+        y.setDelay(0);
+        y.setGains(99, 0);
+        y.setSetpoint(0, 1900);
+        y.setEffect(0, 0, 1);
+        y.pass(1);
+        check.due("P14 99 / 100", y.temperature(0), 2000);
+        y.setGains(100, 0);
+        y.pass(1);
+        check.due("P14 100 / 100", y.temperature(0), 1999);
+    }
+
+    // 2500 - 2052 is 7 * 64, 2500 - 2053 is one less.
+    private static void driftIsRoundedDown() {
+        Coldaisle x = new Coldaisle();
+        x.setLoad(0, 45);
+        x.setLoad(1, 46);
+        x.pass(1);
+        check.due("P14 zone 0", x.temperature(0), 2052);
+        check.due("P14 zone 1", x.temperature(1), 2053);
+        x.setLoad(0, 0);
+        x.setLoad(1, 0);
+        x.pass(1);
+        check.due("P14 448 / 64", x.temperature(0), 2059);
+        check.due("P14 447 / 64", x.temperature(1), 2059);
     }
 
     // Zone 0 calls for all its eight fans, which cool zone 1 by 800 a minute.
@@ -240,5 +266,8 @@ public final class TimeTest {
         check.due("P18 of two the lowest", x.hottest(), 2);
         x.setLoad(0, 20);
         check.due("P18 by temperature, not by load", x.hottest(), 2);
+        x.setLoad(1, 200);
+        x.pass(1);
+        check.due("P18 zone 1", x.hottest(), 1);
     }
 }
