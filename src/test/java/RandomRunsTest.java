@@ -7,12 +7,6 @@ public final class RandomRunsTest {
     private static final long REFUSED_ARGUMENT = Long.MIN_VALUE;
     private static final long REFUSED_STATE = Long.MIN_VALUE + 1;
 
-    private static final String[] SETTINGS = {
-        "setLoad", "setSetpoint", "setEffect", "setGains", "setHall", "setDelay", "fail", "repair"};
-    private static final String[] READINGS = {
-        "command", "speed", "temperature", "demand", "errors", "hotMinutes", "clock", "hottest"};
-    private static final String[] FORECASTS = {"expected", "critical", "margin"};
-
     private static final Check check = new Check();
 
     public static void main(String[] args) {
@@ -26,7 +20,8 @@ public final class RandomRunsTest {
         Coldaisle x = new Coldaisle();
         PlainHall plain = new PlainHall();
         int longest = run % 10 == 0 ? 300 : 12;
-        for (int call = 0; call < CALLS; call++) {
+        int before = run % 150 == 0 ? nearTheClocksEnd(x, plain) : 0;
+        for (int call = before; call < CALLS; call++) {
             String name = pick(random, run);
             int[] a = arguments(name, random, longest);
             long due = dueAnswer(plain, name, a);
@@ -39,36 +34,44 @@ public final class RandomRunsTest {
         }
     }
 
+    private static int nearTheClocksEnd(Coldaisle x, PlainHall plain) {
+        int passes = 330;
+        for (int pass = 0; pass < passes; pass++) {
+            check.due("far pass " + pass, x.pass(300), plain.call("pass", 300, 0, 0));
+        }
+        return passes;
+    }
+
     private static String pick(Random random, int run) {
         int kind = random.nextInt(100);
         int settings = run % 3 == 0 ? 10 : 40;
         if (kind < settings) {
-            return SETTINGS[random.nextInt(SETTINGS.length)];
+            return one(Calls.SETTINGS, random);
         }
         if (kind < settings + 20) {
             return "pass";
         }
         if (kind < settings + 24) {
-            return FORECASTS[random.nextInt(FORECASTS.length)];
+            return one(Calls.FORECASTS, random);
         }
-        return READINGS[random.nextInt(READINGS.length)];
+        return one(Calls.READINGS, random);
+    }
+
+    private static String one(String[] names, Random random) {
+        return names[random.nextInt(names.length)];
     }
 
     private static int[] arguments(String name, Random random, int longest) {
-        switch (name) {
-            case "setLoad": return three(random, 0, 5, 0, 200, 0, 0);
-            case "setSetpoint": return three(random, 0, 5, 1500, 3500, 0, 0);
-            case "setEffect": return three(random, 0, 7, 0, 5, 0, 100);
-            case "setGains": return three(random, 0, 200, 0, 200, 0, 0);
-            case "setHall": return three(random, 1000, 5000, 1000, 5000, 0, 0);
-            case "setDelay": return three(random, 0, 8, 0, 0, 0, 0);
-            case "fail": case "repair": case "command": case "speed":
-                return three(random, 0, 7, 0, 0, 0, 0);
-            case "pass": return new int[] {minutes(random, longest), 0, 0};
-            case "expected": case "critical": case "margin":
-                return three(random, 0, 5, 1, 60, 0, 0);
-            default: return three(random, 0, 5, 0, 0, 0, 0);
+        int[] values = new int[3];
+        if (name.equals("pass")) {
+            values[0] = minutes(random, longest);
+            return values;
         }
+        int[][] ranges = Calls.ranges(name);
+        for (int i = 0; i < ranges.length; i++) {
+            values[i] = value(random, ranges[i][0], ranges[i][1]);
+        }
+        return values;
     }
 
     private static int minutes(Random random, int longest) {
@@ -76,11 +79,6 @@ public final class RandomRunsTest {
             return 300;
         }
         return random.nextInt(30) == 0 ? value(random, 1, 300) : 1 + random.nextInt(longest);
-    }
-
-    private static int[] three(Random random, int... bounds) {
-        return new int[] {value(random, bounds[0], bounds[1]), value(random, bounds[2], bounds[3]),
-            value(random, bounds[4], bounds[5])};
     }
 
     /** Mostly within the bounds, often at one of them, sometimes beyond. */
@@ -107,7 +105,7 @@ public final class RandomRunsTest {
 
     private static long answer(Coldaisle x, String name, int[] a) {
         try {
-            return call(x, name, a[0], a[1], a[2]);
+            return Calls.answer(x, name, a[0], a[1], a[2]);
         } catch (RuntimeException e) {
             if (e.getClass() == IllegalArgumentException.class) {
                 return REFUSED_ARGUMENT;
@@ -116,32 +114,6 @@ public final class RandomRunsTest {
                 return REFUSED_STATE;
             }
             throw e;
-        }
-    }
-
-    private static long call(Coldaisle x, String name, int a, int b, int c) {
-        switch (name) {
-            case "setLoad": return x.setLoad(a, b);
-            case "setSetpoint": return x.setSetpoint(a, b);
-            case "setEffect": return x.setEffect(a, b, c);
-            case "setGains": x.setGains(a, b); return 0;
-            case "setHall": x.setHall(a, b); return 0;
-            case "setDelay": return x.setDelay(a);
-            case "fail": return x.fail(a);
-            case "repair": return x.repair(a);
-            case "command": return x.command(a);
-            case "speed": return x.speed(a);
-            case "pass": return x.pass(a);
-            case "clock": return x.clock();
-            case "temperature": return x.temperature(a);
-            case "demand": return x.demand(a);
-            case "errors": return x.errors(a);
-            case "hotMinutes": return x.hotMinutes(a);
-            case "hottest": return x.hottest();
-            case "expected": return x.expected(a, b);
-            case "critical": return x.critical(a, b);
-            case "margin": return x.margin(a, b);
-            default: throw new AssertionError(name);
         }
     }
 }
