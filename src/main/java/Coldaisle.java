@@ -3,7 +3,7 @@
  * eight fans, with commands that reach the fans late and fans that may fail.
  */
 public final class Coldaisle {
-    /** There is none. */
+    /** The answer where no fan is meant. */
     public static final int NONE = -1;
 
     private static final int ZONES = 6;
@@ -27,10 +27,10 @@ public final class Coldaisle {
     private final Hall hall;
     // Made once and used again by every forecast, so that a forecast makes no objects.
     private final Hall trial;
+    // Not in the hall: the minutes of a forecast make no zone hot.
     private final int[] hotMinutes;
     private int clock;
 
-    /** A hall with cool zones, no load, and fans that stand still. */
     public Coldaisle() {
         settings = new Settings();
         hall = new Hall();
@@ -41,7 +41,6 @@ public final class Coldaisle {
 
     // ---- settings
 
-    /** Sets the load of a zone and returns the one before. */
     public int setLoad(int zone, int load) throws IllegalArgumentException {
         requireZone(zone);
         requireWithin(load, 0, MAX_LOAD);
@@ -50,17 +49,16 @@ public final class Coldaisle {
         return before;
     }
 
-    /** Sets the setpoint of a zone, forgets its errors, and returns the setpoint before. */
     public int setSetpoint(int zone, int setpoint) throws IllegalArgumentException {
         requireZone(zone);
         requireWithin(setpoint, MIN_SETPOINT, MAX_SETPOINT);
         int before = settings.setpoint[zone];
         settings.setpoint[zone] = setpoint;
+        // Errors against the old setpoint say nothing about the new one.
         hall.errors[zone] = 0;
         return before;
     }
 
-    /** Sets how much a fan at full speed cools a zone in a minute; returns the effect before. */
     public int setEffect(int fan, int zone, int effect) throws IllegalArgumentException {
         requireFan(fan);
         requireZone(zone);
@@ -70,7 +68,6 @@ public final class Coldaisle {
         return before;
     }
 
-    /** Sets the proportional and the integral gain. */
     public void setGains(int p, int i) throws IllegalArgumentException {
         requireWithin(p, 0, MAX_GAIN);
         requireWithin(i, 0, MAX_GAIN);
@@ -78,7 +75,6 @@ public final class Coldaisle {
         settings.integral = i;
     }
 
-    /** Sets the ambient temperature and the limit above which a zone is hot. */
     public void setHall(int ambient, int limit) throws IllegalArgumentException {
         requireWithin(ambient, MIN_DEGREES, MAX_DEGREES);
         requireWithin(limit, MIN_DEGREES, MAX_DEGREES);
@@ -86,7 +82,6 @@ public final class Coldaisle {
         settings.limit = limit;
     }
 
-    /** Sets after how many minutes a command reaches its fan; returns the delay before. */
     public int setDelay(int delay) throws IllegalArgumentException {
         requireWithin(delay, 0, MAX_DELAY);
         int before = settings.delay;
@@ -96,7 +91,6 @@ public final class Coldaisle {
 
     // ---- fans
 
-    /** Lets a running fan fail and returns how many fans run then. */
     public int fail(int fan) throws IllegalArgumentException, IllegalStateException {
         requireFan(fan);
         if (hall.failed[fan]) {
@@ -106,7 +100,6 @@ public final class Coldaisle {
         return hall.countRunning();
     }
 
-    /** Repairs a failed fan and returns how many fans run then. */
     public int repair(int fan) throws IllegalArgumentException, IllegalStateException {
         requireFan(fan);
         if (!hall.failed[fan]) {
@@ -116,13 +109,11 @@ public final class Coldaisle {
         return hall.countRunning();
     }
 
-    /** Returns the command that a fan got in the last minute. */
     public int command(int fan) throws IllegalArgumentException {
         requireFan(fan);
         return hall.commandsAgo(0)[fan];
     }
 
-    /** Returns the speed of a fan. */
     public int speed(int fan) throws IllegalArgumentException {
         requireFan(fan);
         return hall.speed[fan];
@@ -130,7 +121,6 @@ public final class Coldaisle {
 
     // ---- time
 
-    /** Lets minutes pass and returns how many times a zone was hot in them. */
     public int pass(int minutes) throws IllegalArgumentException, IllegalStateException {
         requireWithin(minutes, 1, MAX_PASS);
         if (clock + minutes > MAX_CLOCK) {
@@ -145,36 +135,30 @@ public final class Coldaisle {
         return hot;
     }
 
-    /** Returns how many minutes have passed. */
     public int clock() {
         return clock;
     }
 
-    /** Returns the temperature of a zone in hundredths of a degree. */
     public int temperature(int zone) throws IllegalArgumentException {
         requireZone(zone);
         return hall.temperature[zone];
     }
 
-    /** Returns the demand of a zone in the last minute. */
     public int demand(int zone) throws IllegalArgumentException {
         requireZone(zone);
         return hall.demand[zone];
     }
 
-    /** Returns the sum of errors of a zone. */
     public int errors(int zone) throws IllegalArgumentException {
         requireZone(zone);
         return hall.errors[zone];
     }
 
-    /** Returns in how many minutes a zone was hot. */
     public int hotMinutes(int zone) throws IllegalArgumentException {
         requireZone(zone);
         return hotMinutes[zone];
     }
 
-    /** Returns the zone with the greatest temperature; of several the lowest. */
     public int hottest() {
         int hottest = 0;
         for (int zone = 1; zone < ZONES; zone++) {
@@ -187,19 +171,16 @@ public final class Coldaisle {
 
     // ---- what if; nothing changes
 
-    /** Returns the greatest temperature of a zone behind any of the next minutes. */
     public int expected(int zone, int minutes) throws IllegalArgumentException {
         requireForecast(zone, minutes);
         return greatestTemperature(zone, minutes, NONE);
     }
 
-    /** Returns the running fan whose failure now would make a zone hottest; NONE if none runs. */
     public int critical(int zone, int minutes) throws IllegalArgumentException {
         requireForecast(zone, minutes);
         return criticalFan(zone, minutes);
     }
 
-    /** Returns how far a zone would stay below the limit if its critical fan failed now. */
     public int margin(int zone, int minutes) throws IllegalArgumentException {
         requireForecast(zone, minutes);
         int fan = criticalFan(zone, minutes);
@@ -221,7 +202,7 @@ public final class Coldaisle {
         return critical;
     }
 
-    /** The greatest temperature behind any of the minutes if a fan, or NONE, failed now. */
+    // With NONE as the fan that fails, all fans stay as they are.
     private int greatestTemperature(int zone, int minutes, int failing) {
         trial.copyFrom(hall);
         if (failing != NONE) {
@@ -356,7 +337,6 @@ public final class Coldaisle {
             return running;
         }
 
-        /** The commands of all fans in the minute so many minutes before the last. */
         int[] commandsAgo(int minutes) {
             return commands[Math.floorMod(lastMinute - minutes, MINUTES_KEPT)];
         }
@@ -392,6 +372,7 @@ public final class Coldaisle {
                     ofRunning += effect;
                 }
             }
+            // A failed fan without an effect on the zone leaves both sums alike too.
             if (ofRunning == ofAll) {
                 return wanted;
             }
@@ -432,6 +413,7 @@ public final class Coldaisle {
                 cooling += settings.effect[fan][zone] * speed[fan];
             }
             int now = temperature[zone];
+            // Where the zone is warmer than the hall, / would round up.
             int drift = Math.floorDiv(settings.ambient - now, 64);
             return now + settings.load[zone] + drift - cooling / 100;
         }

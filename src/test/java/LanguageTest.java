@@ -4,19 +4,13 @@ import java.lang.reflect.Method;
 import java.lang.reflect.Modifier;
 import java.nio.file.Files;
 import java.nio.file.Path;
-import java.util.Arrays;
+import java.util.ArrayList;
+import java.util.List;
 import java.util.Set;
 import java.util.TreeSet;
 
-/** The face of the class, and those rules of LANGUAGE.md that a program can look at. */
+/** The face as the document writes it, and those rules of LANGUAGE.md a program can look at. */
 public final class LanguageTest {
-    private static final String[] FACE = {
-        "int setLoad(int,int) IAE", "int setSetpoint(int,int) IAE", "int setEffect(int,int,int) IAE",
-        "void setGains(int,int) IAE", "void setHall(int,int) IAE", "int setDelay(int) IAE",
-        "int fail(int) IAE,ISE", "int repair(int) IAE,ISE", "int command(int) IAE",
-        "int speed(int) IAE", "int pass(int) IAE,ISE", "int clock()", "int temperature(int) IAE",
-        "int demand(int) IAE", "int errors(int) IAE", "int hotMinutes(int) IAE", "int hottest()",
-        "int expected(int,int) IAE", "int critical(int,int) IAE", "int margin(int,int) IAE"};
     private static final String[] UNUSED = {
         "import ", "package ", "->", "::", "synchronized", "assert ", "finally", "try ", "catch ",
         "instanceof", "System.out", "double", "float", "Exact", "native", "volatile", "Thread"};
@@ -24,7 +18,7 @@ public final class LanguageTest {
     private static final Check check = new Check();
 
     public static void main(String[] args) throws Exception {
-        face();
+        face(Face.read(Files.readString(Path.of(args[2]))));
         for (Class<?> inside : Coldaisle.class.getDeclaredClasses()) {
             check.holds(inside + " is not static", Modifier.isStatic(inside.getModifiers()));
             check.holds(inside + " is public", !Modifier.isPublic(inside.getModifiers()));
@@ -35,44 +29,51 @@ public final class LanguageTest {
         check.end();
     }
 
-    private static void face() throws Exception {
+    private static void face(Face due) throws Exception {
         Set<String> methods = new TreeSet<>();
         for (Method method : Coldaisle.class.getDeclaredMethods()) {
             if (!Modifier.isPrivate(method.getModifiers())) {
-                check.holds(method + " is not public", Modifier.isPublic(method.getModifiers()));
-                check.holds(method + " is static", !Modifier.isStatic(method.getModifiers()));
+                check.due(method + " is public and no more", method.getModifiers(), Modifier.PUBLIC);
                 methods.add(describe(method));
             }
         }
-        Set<String> due = new TreeSet<>(Arrays.asList(FACE));
-        check.holds("the face is " + methods + ", due is " + due, methods.equals(due));
-        for (Field field : Coldaisle.class.getDeclaredFields()) {
-            boolean named = field.getName().equals("NONE");
-            check.holds(field + " is not private", named || Modifier.isPrivate(field.getModifiers()));
+        Set<String> dueMethods = new TreeSet<>();
+        for (Face.Call call : due.calls) {
+            dueMethods.add(call.signature());
         }
+        check.due("methods of the document", dueMethods.size(), 20);
+        check.holds("the face is " + methods + ", due is " + dueMethods, methods.equals(dueMethods));
+        Set<String> constants = new TreeSet<>();
+        for (Field field : Coldaisle.class.getDeclaredFields()) {
+            if (!Modifier.isPrivate(field.getModifiers())) {
+                constants.add(Modifier.toString(field.getModifiers()) + " " + field.getType() + " "
+                        + field.getName() + " = " + field.get(null));
+            }
+        }
+        Set<String> dueConstants = new TreeSet<>(due.constants);
+        check.due("constants of the document", dueConstants.size(), 1);
+        check.holds("constants are " + constants + ", due is " + dueConstants,
+                constants.equals(dueConstants));
         Constructor<?>[] constructors = Coldaisle.class.getDeclaredConstructors();
         check.due("constructors", constructors.length, 1);
-        check.due("its parameters", Coldaisle.class.getConstructor().getParameterCount(), 0);
+        check.due("it is public", constructors[0].getModifiers(), Modifier.PUBLIC);
+        check.due("its parameters", constructors[0].getParameterCount(), 0);
+        check.due("its exceptions", constructors[0].getExceptionTypes().length, 0);
         int both = Modifier.PUBLIC | Modifier.FINAL;
-        check.due("public final class", Coldaisle.class.getModifiers() & both, both);
-        int none = Coldaisle.class.getField("NONE").getModifiers();
-        check.holds("NONE is no constant", Modifier.isStatic(none) && Modifier.isFinal(none));
+        check.due("public final class", Coldaisle.class.getModifiers(), both);
     }
 
     private static String describe(Method method) {
-        StringBuilder text = new StringBuilder();
-        text.append(method.getReturnType()).append(' ').append(method.getName()).append('(');
-        for (int i = 0; i < method.getParameterCount(); i++) {
-            text.append(i > 0 ? "," : "").append(method.getParameterTypes()[i]);
+        List<String> parameters = new ArrayList<>();
+        for (Class<?> type : method.getParameterTypes()) {
+            parameters.add(type.getSimpleName());
         }
-        text.append(')');
-        String before = " ";
+        List<String> exceptions = new ArrayList<>();
         for (Class<?> thrown : method.getExceptionTypes()) {
-            text.append(before).append(thrown == IllegalArgumentException.class ? "IAE"
-                    : thrown == IllegalStateException.class ? "ISE" : thrown.getName());
-            before = ",";
+            exceptions.add(thrown.getSimpleName());
         }
-        return text.toString();
+        String returns = method.getReturnType().getSimpleName();
+        return Face.signature(returns, method.getName(), parameters, exceptions);
     }
 
     private static void members(Class<?> owner) {
